@@ -52,6 +52,14 @@ public final class FaultTest {
         refused(1, "dry |abcdefghi;");
         refused(1, "leg 0 1 |5at 0 1;");
         refused(1, "leg 0 1 5 at 0 |1from 0 1;");
+        refused(1, "|`");
+        refused(1, "|{");
+        refused(1, "dry |/;");
+        refused(1, "dry |:;");
+        refused(1, "dry 5|<");
+        refused(1, "dry |5z;");
+        refused(1, "dry |5a;");
+        refused(2, "|z 5;");
         refused(2, "|abcdefgh 5;");
         refused(2, "dry |abcdefgh;");
         taken(0, 1, "dry5;");

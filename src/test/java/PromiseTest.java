@@ -231,6 +231,21 @@ public final class PromiseTest {
         due("10: need(0) in band 1", desk.need(0), 900 + 100 + 150 + 130);
         desk.flight(0, 3, 0, 0, 0);
         due("10: no WAY", desk.need(0), -1);
+        StringBuilder chain = new StringBuilder("leg 8 9 400;leg 7 8 400;leg 6 7 400;leg 5 6 400;leg 4 5 400;leg 3 4 400;");
+        chain.append("leg 2 3 400;leg 1 2 400;leg 0 9 999;leg 9 0 999;leg 0 9 999;leg 0 9 999;leg 0 9 999;leg 1 0 1;");
+        chain.append("leg 2 0 1;leg 0 1 400;speed 0 100;wind 2 0 15 -50;");
+        for (int level = 0; level < 6; level++) {
+            chain.append("burn ").append(level).append(" 0 60;");
+        }
+        chain.append("wind 0 1 8 -350;wind 0 1 10 -350;wind 0 1 11 -350;wind 0 1 12 -350;");
+        desk = Check.desk(chain.toString());
+        desk.flight(0, 9, 0, 0, 0);
+        due("10: through all POINTS", desk.need(0), 9 * 60);
+        due("10: nine LEGS", desk.legs(0), 9);
+        due("10: the sixteenth LEG", desk.leg(0, 0, 0), 15);
+        due("10: the last LEG", desk.leg(0, 8, 0), 0);
+        due("10: straight", desk.need(1), 150);
+        due("10: the first straight LEG", desk.leg(1, 0, 0), 8);
         desk = Check.desk("leg 0 1 999; leg 1 2 999; speed 0 100; wind 0 0 0 -50; burn 0 0 9999; burn 1 0 9999; "
             + "burn 2 0 9999; burn 3 0 9999; burn 4 0 9999; burn 5 0 9999; wind 0 0 1 -50; wind 0 1 0 -350; wind 0 1 1 -350;");
         desk.flight(0, 2, 0, 30000, 10000);
