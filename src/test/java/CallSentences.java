@@ -938,6 +938,14 @@ final class CallSentences {
         said.due("LAND just kept", carried("land 80;"), 0);
         said.due("LAND broken", carried("land 79;"), -1);
         said.due("by one more", carried("tank 176; most 300; land 300;"), 1);
+        // A FLIGHT before that was LEGAL counts for nothing.
+        FlightDesk desk = Check.desk(BOOK + "tank 200;");
+        desk.flight(0, 2, 7, 30, 50);
+        said.due("LEGAL", desk.carry(0, 1, 2), 25);
+        desk.flight(0, 2, 7, 30, 76);
+        said.due("not LEGAL then", desk.carry(0, 1, 2), -1);
+        desk.flight(0, 2, 7, 30, 75);
+        said.due("LEGAL again", desk.carry(0, 1, 2), 0);
     }
 
     // ---- about

@@ -61,7 +61,8 @@ final class WaySentences {
             // miles, speed, wind, minutes
             {400, 400, 0, 60}, {401, 400, 0, 61}, {399, 400, 0, 60}, {393, 400, 0, 59}, {394, 400, 0, 60},
             {1, 999, 400, 1}, {1, 400, 0, 1}, {20, 400, 0, 3}, {21, 400, 0, 4}, {999, 100, -50, 1199},
-            {10, 100, -40, 10}, {11, 100, -40, 11}, {999, 999, 0, 60}, {999, 999, -1, 61}, {999, 999, 1, 60},
+            {1, 100, -41, 2}, {1, 100, -40, 1}, {1, 100, -39, 1}, {10, 100, -40, 10}, {11, 100, -40, 11},
+            {999, 999, 0, 60}, {999, 999, -1, 61}, {999, 999, 1, 60},
         };
         for (int[] row : rows) {
             FlightDesk desk = flown("leg 0 1 " + row[0] + "; speed 3 " + row[1] + "; wind 1 3 0 " + row[2] + ";", 0, 1, 0, 0);
@@ -229,16 +230,30 @@ final class WaySentences {
         said.due("a gap", flown("leg 0 2 5; leg 3 1 5;", 0, 1, 0, 0).need(0), -1);
         said.due("one against the way", flown("leg 0 2 5; leg 1 2 5;", 0, 1, 0, 0).need(0), -1);
         said.due("told the other way round", flown("leg 2 1 400; leg 0 2 400;", 0, 1, 0, 0).need(0), 2000);
-        StringBuilder chain = new StringBuilder();
-        for (int point = 8; point >= 0; point--) {
-            chain.append("leg ").append(point).append(' ').append(point + 1).append(" 400 at 0 0;");
+        chain(true);
+        chain(false);
+    }
+
+    /** Through all ten POINTS, the LEGS told from the first or from the last on; back is by one LEG. */
+    private void chain(boolean fromTheFirst) {
+        StringBuilder text = new StringBuilder();
+        for (int i = 0; i < 9; i++) {
+            int point = fromTheFirst ? i : 8 - i;
+            text.append("leg ").append(point).append(' ').append(point + 1).append(" 400 at 0 0;");
         }
-        FlightDesk desk = flown(chain + "burn 0 0 60;", 0, 9, 0, 0);
+        FlightDesk desk = flown(text + "leg 9 0 400 at 0 0; burn 0 0 60;", 0, 9, 0, 0);
         said.due("need through all POINTS", desk.need(0), 9 * 60);
         said.due("legs through all POINTS", desk.legs(0), 9);
+        said.due("time through all POINTS", desk.time(0), 9 * 60);
         for (int k = 0; k < 9; k++) {
-            said.due("leg(0, " + k + ", 0)", desk.leg(0, k, 0), 8 - k);
+            said.due("leg(0, " + k + ", 0)", desk.leg(0, k, 0), fromTheFirst ? k : 8 - k);
+            said.due("at(0, 1080, " + k + ")", desk.at(0, 1080, k), 1080 - 60 * k);
+            said.due("home(0, " + k + ")", desk.home(0, k), k == 0 ? 0 : 60 * (10 - k));
         }
+        said.due("home of the last", desk.home(0, 9), 60);
+        said.due("lastReturn at NEED", desk.lastReturn(0, 540), 0);
+        said.due("lastReturn, less by one", desk.lastReturn(0, 599), 0);
+        said.due("lastReturn of all", desk.lastReturn(0, 600), 9);
     }
 
     private void eachOnALevel() {
