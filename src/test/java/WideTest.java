@@ -22,7 +22,7 @@ public final class WideTest {
         }
     }
 
-    /** A chain through some of the POINTS, some of it both ways, with LEGS across, told in any order. */
+    /** A chain through some of the POINTS, some of it both ways, with LEGS across, told along it or in any order. */
     private static List<String> makeLegs(boolean coarse) {
         List<String> legs = new ArrayList<>();
         int points = pick(5, 10);
@@ -37,7 +37,10 @@ public final class WideTest {
             int from = pick(0, points - 1);
             legs.add(makeLeg(from, (from + pick(1, points - 1)) % points, coarse));
         }
-        Collections.shuffle(legs, RANDOM);
+        // Told along the chain, they are reckoned back just one LEG a round.
+        if (pick(0, 1) == 0) {
+            Collections.shuffle(legs, RANDOM);
+        }
         return legs.subList(0, Math.min(legs.size(), pick(0, 20) == 0 ? 17 : 16));
     }
 
@@ -97,8 +100,8 @@ public final class WideTest {
     }
 
     private static void compareFlight(FlightDesk desk, Oracle oracle) {
-        oracle.from = pick(0, 5);
-        oracle.to = (oracle.from + pick(1, 9)) % 10;
+        oracle.from = pick(0, 3) == 0 ? 0 : pick(0, 5);
+        oracle.to = oracle.from == 0 ? pick(4, 9) : (oracle.from + pick(1, 9)) % 10;
         oracle.day = pick(0, 9);
         oracle.payload = pick(0, 2000);
         oracle.reserve = pick(0, 2000);
